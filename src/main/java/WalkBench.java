@@ -23,7 +23,7 @@ public final class WalkBench {
     private static final int KIND_CORNER = 3;
     private static final int KIND_RING = 4;
 
-    private static final int WEIGHT_TOUCHES = 0;
+    // weight 0, TOUCHES, is what is left when none of these is asked
     private static final int WEIGHT_TURNS = 1;
     private static final int WEIGHT_AREA = 2;
     private static final int WEIGHT_TOLD = 3;
@@ -683,7 +683,7 @@ public final class WalkBench {
     private static long drawn(long total, int seed) {
         long s = seed;
         long mask = 0;
-        while (mask < total - 1) {
+        for (int bits = 0; bits < 62 && mask < total - 1; bits++) {
             mask = 2 * mask + 1;
         }
         long drawn = 0;

@@ -14,6 +14,7 @@ public final class CountTest {
         promise17All();
         promise18Least();
         promise19Sum();
+        promise19SumOfManySquares();
         promise19SumRefused();
         promise20Best();
         promise20BestRefused();
@@ -77,6 +78,14 @@ public final class CountTest {
         Check.holds("kind(4, 7)", x.kind(4, 7));
         Check.steps(x, -3, 0);
         Check.fine(x, "count(7) backward round a RING of 7", x.count(7), 1);
+        Check.holds("kind(4, 5)", x.kind(4, 5));
+        Check.steps(x, 1, 0, 3, 1);
+        int[][] round = {{1, 0, 1, 1}, {4, 0, 1, 0}, {3, 1, 1, 1}, {2, 1, 1, 0}, {4, 1, 2, 2}, {1, 2, 2, 1}, {4, 2, 2, 0}, {0, 3, 4, 4}, {0, 2, 4, 0}, {2, 1, 6, 0}, {3, 2, 7, 0}, {1, 2, 7, 21}};
+        for (int[] row : round) {
+            Check.holds("to", x.to(row[0], row[1]));
+            Check.fine(x, "count round a RING to " + row[0] + ", " + row[1], x.count(row[2]), row[3]);
+        }
+        Check.holds("to", x.to(0, 0));
         // on a RING of 1 all these lead where they came from: powers of their number
         Check.holds("kind(4, 1)", x.kind(4, 1));
         Check.steps(x, 1, 0, -1, 0, 2, 0, -2, 0);
@@ -130,6 +139,25 @@ public final class CountTest {
         Check.steps(x, 1, 0, -1, 0, 2, 0, -2, 0);
         Check.refused(x, "all(31), 2 to the power 62", x.all(31), 9);
         Check.fine(x, "all(30)", x.all(30), 1L << 60);
+        allOneWay();
+    }
+
+    private static void allOneWay() {
+        WalkBench x = new WalkBench();
+        Check.steps(x, 1, 0, 1, 1);
+        Check.holds("from", x.from(28, 0));
+        Check.fine(x, "all(2) toward the edge", x.all(2), 4);
+        Check.fine(x, "all(3) over the edge", x.all(3), 0);
+        Check.holds("from", x.from(-28, 0));
+        Check.fine(x, "all(3) away from the edge", x.all(3), 8);
+        Check.holds("bar", x.bar(-26, 1, true));
+        Check.fine(x, "all(3) round a SQUARE", x.all(3), 4);
+        Check.holds("from", x.from(-30, -30));
+        Check.fine(x, "all(0) in a corner", x.all(0), 1);
+        Check.fine(x, "all(40) from a corner", x.all(40), 1L << 40);
+        Check.holds("from", x.from(30, 30));
+        Check.fine(x, "all(0) in another", x.all(0), 1);
+        Check.fine(x, "all(1) in another", x.all(1), 0);
     }
 
     private static void promise18Least() {
@@ -242,6 +270,73 @@ public final class CountTest {
             total += x.sum(1, 14, k);
         }
         Check.same("sums of TURNS together", total, x.count(14));
+    }
+
+    /** Long steps come to many squares; all weights together are all walks, and each is as PlainBench counts it. */
+    private static void promise19SumOfManySquares() {
+        int[] steps = {3, 3, -3, -2, 1, -3, -2, 3, 3, -1, -3, 1, 1, 0, 0, -1};
+        for (int weight = 0; weight <= 3; weight++) {
+            WalkBench x = new WalkBench();
+            Check.steps(x, steps);
+            Check.holds("kind", x.kind(weight == 2 ? 1 : 0, 0));
+            Check.holds("from", x.from(1, 4));
+            Check.holds("to", x.to(0, 3));
+            long total = 0;
+            for (int k = 0; k <= 120; k++) {
+                long some = x.sum(weight, 14, k);
+                Check.holds("sum is not below 0", some >= 0);
+                total += some;
+            }
+            if (weight != 2) {
+                Check.same("sums of weight " + weight + " together", total, x.count(14));
+            }
+        }
+        heavySums(steps);
+        sumsBeyondAll();
+    }
+
+    /** High above, every WALK weighs more than may be asked, and none must be seen at a lesser weight. */
+    private static void sumsBeyondAll() {
+        for (int n = 6; n <= 14; n += 2) {
+            WalkBench x = new WalkBench();
+            Check.holds("kind", x.kind(1, 0));
+            Check.holds("from", x.from(0, 30));
+            Check.holds("to", x.to(0, 30));
+            for (int k = 0; k <= 120; k++) {
+                Check.fine(x, "sum(2, " + n + ", " + k + ")", x.sum(2, n, k), 0);
+            }
+            Check.holds("there are WALKS", x.count(n) > 0);
+        }
+    }
+
+    private static void heavySums(int[] steps) {
+        WalkBench x = new WalkBench();
+        PlainBench plain = new PlainBench();
+        Check.steps(x, steps);
+        plain.sheet(0, 2, steps.length);
+        for (int i = 0; i < steps.length; i++) {
+            plain.write(0, i, steps[i]);
+        }
+        plain.steps(0, 8);
+        for (int k = 0; k < 8; k++) {
+            Check.holds("told", x.told(k, 9 - k % 3) && plain.told(k, 9 - k % 3));
+        }
+        int[][] asked = {{2, 5, 6}, {2, 7, 15}, {2, 6, 20}, {3, 7, 0}, {1, 7, 0}, {0, 7, 0}};
+        for (int[] row : asked) {
+            int kind = row[0] == 2 ? 1 : 0;
+            Check.holds("kind", x.kind(kind, 0) && plain.kind(kind, 0));
+            Check.holds("from", x.from(0, row[2]) && plain.from(0, row[2]));
+            for (int bx = -1; bx <= 1; bx++) {
+                Check.holds("to", x.to(bx, row[2] + 2) && plain.to(bx, row[2] + 2));
+                int low = row[0] == 2 ? 97 : row[0] == 3 ? 52 : 0;
+                for (int k = low; k < low + 20; k += row[0] == 2 ? 1 : 2) {
+                    Check.fine(x, "sum(" + row[0] + ", " + row[1] + ", " + k + ")", x.sum(row[0], row[1], k), plain.sum(row[0], row[1], k));
+                }
+                Check.same("sum of 120", x.sum(row[0], row[1], 120), plain.sum(row[0], row[1], 120));
+                Check.same("best after sum", x.best(row[0], row[1], true), plain.best(row[0], row[1], true));
+                Check.same("worst after sum", x.best(row[0], row[1], false), plain.best(row[0], row[1], false));
+            }
+        }
     }
 
     private static void promise19SumRefused() {
@@ -542,7 +637,12 @@ public final class CountTest {
         Check.steps(x, 1, 1, 1, -1);
         Check.refused(x, "mirror, a SQUARE below is BARRED", x.mirror(0, 0), 7);
         Check.refused(x, "mirror, BARRED ahead of too far", x.mirror(50, 0), 7);
+        Check.holds("bar", x.bar(9, -9, true));
+        Check.holds("bar", x.bar(8, 8, true));
         Check.holds("bar", x.bar(9, -9, false));
+        Check.refused(x, "mirror, one SQUARE is BARRED still", x.mirror(0, 0), 7);
+        Check.holds("bar", x.bar(8, 8, false));
+        Check.holds("bar", x.bar(8, 8, false));
         Check.fine(x, "mirror(0, 0)", x.mirror(0, 0), 1);
         Check.holds("to", x.to(0, -1));
         Check.refused(x, "mirror, B is not OPEN", x.mirror(0, 0), 7);

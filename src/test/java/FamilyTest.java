@@ -39,6 +39,16 @@ public final class FamilyTest {
         Check.fine(x, "table(0, 3) as it was", x.table(0, 3), 20);
         Check.fine(x, "family(4)", x.family(4));
         Check.fine(x, "table(0, 3), told again", x.table(0, 3), 1);
+        int[][] far = {{1, 0}, {0, 1}};
+        for (int[] row : far) {
+            Check.holds("place", x.place(0, false, row[0], row[1]));
+            Check.holds("place", x.place(3, true, -row[0], -row[1]));
+            Check.fine(x, "table(0, 0), behind", x.table(0, 0), 0);
+            Check.fine(x, "table(3, 3), behind", x.table(3, 3), 0);
+            Check.holds("family(4)", x.family(4));
+            Check.fine(x, "table(0, 0), told again", x.table(0, 0), 1);
+            Check.fine(x, "table(3, 3), told again", x.table(3, 3), 1);
+        }
     }
 
     private static void promise28Place() {
@@ -67,6 +77,13 @@ public final class FamilyTest {
         Check.holds("family(1)", x.family(1));
         int[][] ways = {{0, 0, 1}, {1, 0, 1}, {1, 1, 2}, {3, 2, 10}, {5, 5, 252}, {8, 8, 12870}, {30, 1, 31}, {-1, 3, 0}, {3, -1, 0}};
         for (int[] row : ways) {
+            Check.holds("place", x.place(0, true, row[0], row[1]));
+            Check.fine(x, "table(0, 0) to " + row[0] + ", " + row[1], x.table(0, 0), row[2]);
+        }
+        // as wide and as high as the plane
+        int[][] edges = {{30, -30, 1}, {30, -29, 61}, {30, -28, 1891}, {-30, 30, 1}, {-29, 30, 61}, {-28, 30, 1891}};
+        Check.holds("place", x.place(0, false, -30, -30));
+        for (int[] row : edges) {
             Check.holds("place", x.place(0, true, row[0], row[1]));
             Check.fine(x, "table(0, 0) to " + row[0] + ", " + row[1], x.table(0, 0), row[2]);
         }

@@ -195,6 +195,13 @@ public final class PlaneTest {
         Check.refused(x, "wall(0, 2)", x.wall(0, 2), 2);
         Check.fine(x, "open(5, 5), nothing is BARRED", x.open(5, 5), 1);
         Check.fine(x, "wall(0, 1)", x.wall(0, 1), 1);
+        int[][] wrong = {{31, 0, 0, 0}, {0, 31, 0, 0}, {-31, 0, 0, 0}, {0, -31, 0, 0}, {0, 0, 31, 0}, {0, 0, 0, 31},
+            {0, 0, -31, 0}, {0, 0, 0, -31}};
+        for (int[] row : wrong) {
+            Check.sheet(x, 1, row);
+            Check.refused(x, "wall of what is no SQUARE", x.wall(1, 2), 2);
+        }
+        Check.fine(x, "open(0, 0)", x.open(0, 0), 1);
     }
 
     private static void promise13From() {
