@@ -310,19 +310,22 @@ public final class CountTest {
     }
 
     private static void heavySums(int[] steps) {
-        WalkBench x = new WalkBench();
         PlainBench plain = new PlainBench();
-        Check.steps(x, steps);
         plain.sheet(0, 2, steps.length);
         for (int i = 0; i < steps.length; i++) {
             plain.write(0, i, steps[i]);
         }
         plain.steps(0, 8);
         for (int k = 0; k < 8; k++) {
-            Check.holds("told", x.told(k, 9 - k % 3) && plain.told(k, 9 - k % 3));
+            Check.holds("told", plain.told(k, 9 - k % 3));
         }
         int[][] asked = {{2, 5, 6}, {2, 7, 15}, {2, 6, 20}, {3, 7, 0}, {1, 7, 0}, {0, 7, 0}};
         for (int[] row : asked) {
+            WalkBench x = new WalkBench();
+            Check.steps(x, steps);
+            for (int k = 0; k < 8; k++) {
+                Check.holds("told", x.told(k, 9 - k % 3));
+            }
             int kind = row[0] == 2 ? 1 : 0;
             Check.holds("kind", x.kind(kind, 0) && plain.kind(kind, 0));
             Check.holds("from", x.from(0, row[2]) && plain.from(0, row[2]));
@@ -412,17 +415,16 @@ public final class CountTest {
     }
 
     private static void promise21And22WalkNumber() {
-        WalkBench x = new WalkBench();
-        Check.steps(x, 1, 1, -1, 1, 1, -1, -1, -1, 2, 0, -2, 0);
-        Check.holds("bar", x.bar(1, 1, true));
-        Check.holds("to", x.to(2, 0));
         for (int n = 0; n <= 6; n++) {
-            long total = x.count(n);
+            long total = bench().count(n);
             String before = "";
+            WalkBench x = bench();
             for (long k = 0; k < total; k++) {
+                // an object is used for 512 calls at most
+                x = k % 10 == 0 ? bench() : x;
                 Check.fine(x, "walk(" + n + ", " + k + ")", x.walk(n, k), n);
                 String shown = Check.shown(x);
-                Check.holds("walk " + k + " of " + n + " comes behind the one ahead", before.compareTo(shown) < 0);
+                Check.holds("walk " + k + " of " + n + " comes behind the one ahead", before.compareTo(shown) < 0 || k == 0);
                 Check.same("how many bytes", shown.length(), n);
                 before = shown;
                 Check.holds("sheet", x.sheet(0, 0, n));
@@ -434,7 +436,19 @@ public final class CountTest {
             Check.refused(x, "walk(n, count)", x.walk(n, total), 8);
             Check.shows(x, "OUT after a refused walk", before);
         }
-        x = new WalkBench();
+        promise21And22Longest();
+    }
+
+    private static WalkBench bench() {
+        WalkBench x = new WalkBench();
+        Check.steps(x, 1, 1, -1, 1, 1, -1, -1, -1, 2, 0, -2, 0);
+        Check.holds("bar", x.bar(1, 1, true));
+        Check.holds("to", x.to(2, 0));
+        return x;
+    }
+
+    private static void promise21And22Longest() {
+        WalkBench x = new WalkBench();
         Check.holds("walk(2, 0)", x.walk(2, 0) == 2);
         Check.fine(x, "walk(0, 0)", x.walk(0, 0), 0);
         Check.shows(x, "walk(0, 0)", "");
@@ -526,14 +540,15 @@ public final class CountTest {
     }
 
     private static void promise23Draw() {
-        WalkBench x = new WalkBench();
         int[] lengths = {0, 2, 4, 6, 8, 14, 20, 30, 32};
         for (int n : lengths) {
+            WalkBench x = new WalkBench();
             for (int seed = 0; seed < 40; seed++) {
                 long got = x.draw(n, seed * 52345677 & Integer.MAX_VALUE);
                 Check.fine(x, "draw", got, dueDraw(x.count(n), seed * 52345677 & Integer.MAX_VALUE));
             }
         }
+        WalkBench x = new WalkBench();
         Check.fine(x, "draw(2, 0)", x.draw(2, 0), dueDraw(4, 0));
         Check.fine(x, "draw(2, MAX)", x.draw(2, Integer.MAX_VALUE), dueDraw(4, Integer.MAX_VALUE));
         Check.shows(x, "OUT after draw()", "");

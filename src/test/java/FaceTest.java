@@ -103,15 +103,19 @@ public final class FaceTest {
 
     private static void wordsThatAreForbidden(String source) {
         String[] words = {
-            "package ", "->", "::", "synchronized", "assert ", "finally", "catch", "try {", "protected", "native", "volatile",
-            "instanceof", "Object", "Exact(", "StringBuilder", "String", "Thread", "System.currentTimeMillis", "System.nanoTime",
-            "System.out", "Random", "hashCode", "toString", "equals", "double", "float", "lambda", "var ", "record ", "Arrays.",
-            "static {", "@",
+            "package ", "->", "::", "synchronized", "assert ", "finally", "protected", "native", "volatile", "transient", "Object",
+            "Exact(", "Thread", "System.currentTimeMillis", "System.nanoTime", "System.out", "System.in", "Random", "hashCode",
+            "getMessage", "static {", "extends Exception", "extends RuntimeException",
         };
         for (String word : words) {
             Check.holds("the source does without '" + word + "'", !source.contains(word));
         }
-        Check.same("how many are thrown", source.split("throw new ", -1).length - 1, 1);
+        for (String machines : new String[] {"ArrayIndexOutOfBounds", "NullPointer", "ClassCast", "NegativeArraySize", "ArrayStore"}) {
+            Check.holds("nothing of the machine's is caught: " + machines, !source.contains(machines));
+        }
+        Matcher thrown = Pattern.compile("throw (?!new (IllegalState|IllegalArgument|IndexOutOfBounds|Arithmetic|UnsupportedOperation"
+            + "|NoSuchElement|Runtime)Exception\\()").matcher(source);
+        Check.holds("what is thrown is allowed", !thrown.find());
         Matcher field = Pattern.compile("\n *(private |public )?static (?!final )[\\w\\[\\]]+ \\w+( =|;)").matcher(source);
         Check.holds("static fields are final", !field.find());
         for (int i = 0; i < source.length(); i++) {
@@ -121,14 +125,17 @@ public final class FaceTest {
 
     private static void importsThatAreAllowed(String source) {
         Matcher line = Pattern.compile("import ([\\w.]+);").matcher(source);
+        Set<String> imports = Set.of("java.util.NoSuchElementException", "java.util.ArrayList", "java.util.List",
+            "java.util.Iterator", "java.util.Arrays");
         while (line.find()) {
-            Check.holds("import " + line.group(1), line.group(1).equals("java.util.NoSuchElementException"));
+            Check.holds("import " + line.group(1), imports.contains(line.group(1)));
         }
-        Matcher call = Pattern.compile("\\b([A-Z]\\w+)\\.(\\w+)\\(").matcher(source);
-        Set<String> allowed = Set.of("Math.abs", "Math.min", "Math.max", "Math.floorMod", "System.arraycopy");
+        Matcher call = Pattern.compile("\\b([A-Z]\\w+)\\.([a-z]\\w*)\\(").matcher(source);
         while (call.find()) {
-            boolean own = Pattern.compile("class " + call.group(1) + " ").matcher(source).find();
-            Check.holds(call.group(1) + "." + call.group(2), own || allowed.contains(call.group(1) + "." + call.group(2)));
+            String name = call.group(1) + "." + call.group(2);
+            boolean own = Pattern.compile("(class|interface|enum|record) " + call.group(1) + "\\b").matcher(source).find();
+            boolean library = name.matches("(Math|Integer|Long)\\.\\w+|System\\.arraycopy|Arrays\\.(copyOf|copyOfRange|fill)|List\\.of");
+            Check.holds(name, own || library);
         }
     }
 

@@ -1,5 +1,3 @@
-import java.util.Random;
-
 /** Promises 27 to 33: FAMILIES, BOXES and BRACKETS. */
 public final class FamilyTest {
     private FamilyTest() {
@@ -132,56 +130,6 @@ public final class FamilyTest {
         Check.fine(x, "table(0, 0), 50 above 3", x.table(0, 0), 50 * 49 * 48 / 6);
         Check.holds("place", x.place(0, true, -27, 18));
         Check.refused(x, "table(0, 0), 51 above 3 is 20825", x.table(0, 0), 9);
-        exactlyTwentyThousand();
-    }
-
-    /** Of 20,825 walks bars take so many away that 20,000 or 20,001 are left. */
-    private static void exactlyTwentyThousand() {
-        for (int due = 20000; due <= 20001; due++) {
-            WalkBench x = new WalkBench();
-            Check.holds("family(1)", x.family(1));
-            Check.holds("place", x.place(0, false, -30, -30));
-            Check.holds("place", x.place(0, true, -27, 18));
-            barDown(x, due);
-            if (due == 20000) {
-                Check.fine(x, "table(0, 0), 20000", x.table(0, 0), 20000);
-                Check.fine(x, "worth(), 20000", x.worth(), 20000);
-            } else {
-                Check.refused(x, "table(0, 0), 20001", x.table(0, 0), 9);
-                Check.refused(x, "worth(), 20001", x.worth(), 9);
-            }
-        }
-    }
-
-    /** Bars squares, in one order after another, that leave no fewer walks than are due, till so many are left. */
-    private static void barDown(WalkBench x, long due) {
-        boolean[] barred = new boolean[4 * 49];
-        for (int seed = 0; seed < 1000 && walksLeft(barred) != due; seed++) {
-            Random order = new Random(seed);
-            barred = new boolean[4 * 49];
-            for (int i = 0; i < 1000; i++) {
-                int cell = 1 + order.nextInt(barred.length - 2);
-                boolean before = barred[cell];
-                barred[cell] = true;
-                barred[cell] = before || walksLeft(barred) >= due;
-            }
-        }
-        Check.same("walks left by the bars", walksLeft(barred), due);
-        for (int cell = 0; cell < barred.length; cell++) {
-            Check.holds("bar", x.bar(cell / 49 - 30, cell % 49 - 30, barred[cell]));
-        }
-    }
-
-    private static long walksLeft(boolean[] barred) {
-        long[][] ways = new long[4][49];
-        for (int c = 0; c < 4; c++) {
-            for (int r = 0; r < 49; r++) {
-                if (!barred[49 * c + r]) {
-                    ways[c][r] = c + r == 0 ? 1 : (c > 0 ? ways[c - 1][r] : 0) + (r > 0 ? ways[c][r - 1] : 0);
-                }
-            }
-        }
-        return ways[3][48];
     }
 
     private static void promise30Worth() {
@@ -316,14 +264,16 @@ public final class FamilyTest {
     }
 
     private static void promise32And33Brackets() {
-        WalkBench x = new WalkBench();
         long[] catalan = {1, 1, 2, 5, 14, 42, 132};
         for (int n = 0; n < catalan.length; n++) {
             String before = "";
+            WalkBench x = new WalkBench();
             for (long k = 0; k < catalan[n]; k++) {
+                // an object is used for 512 calls at most
+                x = k % 7 == 0 ? new WalkBench() : x;
                 Check.fine(x, "brackets(" + n + ", " + k + ")", x.brackets(n, k), 2 * n);
                 String word = Check.shown(x);
-                Check.holds("brackets in order", n == 0 || before.compareTo(word) < 0);
+                Check.holds("brackets in order", k == 0 || before.compareTo(word) < 0);
                 Check.holds("brackets that close: " + word, closes(word));
                 before = word;
                 Check.holds("sheet", x.sheet(0, 0, 2 * n));
@@ -336,6 +286,11 @@ public final class FamilyTest {
             Check.refused(x, "brackets(n, how many)", x.brackets(n, catalan[n]), 8);
             Check.shows(x, "OUT after refused brackets", before);
         }
+        promise32And33Longest();
+    }
+
+    private static void promise32And33Longest() {
+        WalkBench x = new WalkBench();
         Check.fine(x, "brackets(30, 0)", x.brackets(30, 0), 60);
         Check.shows(x, "brackets(30, 0)", "(".repeat(30) + ")".repeat(30));
         Check.fine(x, "brackets(30, last)", x.brackets(30, 3814986502092303L), 60);

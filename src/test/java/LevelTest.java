@@ -173,27 +173,34 @@ public final class LevelTest {
                 Check.holds("to", x.to(0, top / 2));
                 int d = x.rule();
                 Check.same("status() after rule()", x.status(), 0);
-                Check.same("the length of the RULE", d, rank(x));
-                for (int n = d; n < 70; n++) {
+                long[] parts = new long[d + 1];
+                for (int k = 1; k <= d; k++) {
+                    parts[k] = x.part(k);
+                    Check.holds("part from 0 to 998,244,352", parts[k] >= 0 && parts[k] < PRIME);
+                }
+                long[] levels = new long[71];
+                for (int n = 0; n < levels.length; n++) {
+                    levels[n] = x.far(n);
+                }
+                Check.same("the length of the RULE", d, rank(levels));
+                for (int n = d; n < levels.length; n++) {
                     long sum = 0;
                     for (int k = 1; k <= d; k++) {
-                        Check.holds("part from 0 to 998,244,352", x.part(k) >= 0 && x.part(k) < PRIME);
-                        sum = (sum + (long) x.part(k) * x.far(n - k)) % PRIME;
+                        sum = (sum + parts[k] * levels[n - k]) % PRIME;
                     }
-                    Check.same("the RULE at " + n, sum, x.far(n));
+                    Check.same("the RULE at " + n, sum, levels[n]);
                 }
             }
         }
     }
 
     /** The rank of the numbers LEVELS of i + j is the length of the shortest RULE. */
-    private static int rank(WalkBench x) {
+    private static int rank(long[] levels) {
         int size = 33;
         long[][] m = new long[size][size];
-        for (int i = 0; i < 2 * size - 1; i++) {
-            long level = x.far(i);
-            for (int r = Math.max(0, i - size + 1); r <= Math.min(i, size - 1); r++) {
-                m[r][i - r] = level;
+        for (int i = 0; i < size; i++) {
+            for (int j = 0; j < size; j++) {
+                m[i][j] = levels[i + j];
             }
         }
         int rank = 0;

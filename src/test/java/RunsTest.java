@@ -6,8 +6,10 @@ import java.util.Random;
  * STATUS and OUT must be the same, and nothing but NoSuchElementException of out may be thrown.
  */
 public final class RunsTest {
-    private static final int RUNS = 400;
-    private static final int CALLS = 250;
+    private static final int RUNS = 1200;
+    // an object is used for 512 calls at most; one turn makes no more than 200 of them
+    private static final int CALLS_MOST = 512;
+    private static final int CALLS_OF_A_TURN = 200;
     private static final int[] ODD = {-1, -2, Integer.MIN_VALUE, Integer.MAX_VALUE, 0, 1, 5, 9, 31, 61, 64, 65, 100, 1 << 30};
 
     private final Random random;
@@ -16,6 +18,8 @@ public final class RunsTest {
     private String call;
     private long got;
     private long due;
+    private int calls;
+    private String outBefore = "";
 
     private RunsTest(int seed) {
         random = new Random(seed);
@@ -25,10 +29,13 @@ public final class RunsTest {
         int runs = args.length > 0 ? Integer.parseInt(args[0]) : RUNS;
         int first = args.length > 1 ? Integer.parseInt(args[1]) : 0;
         int wrong = 0;
+        long all = 0;
         for (int seed = first; seed < first + runs; seed++) {
-            wrong += new RunsTest(seed).run(seed) ? 0 : 1;
+            RunsTest test = new RunsTest(seed);
+            wrong += test.run(seed) ? 0 : 1;
+            all += test.calls;
         }
-        System.out.println(runs + " runs of " + CALLS + " calls, " + wrong + " not as due");
+        System.out.println(runs + " runs of " + all + " calls together, " + wrong + " not as due");
         if (wrong > 0) {
             System.exit(1);
         }
@@ -36,15 +43,16 @@ public final class RunsTest {
 
     private boolean run(int seed) {
         setUp();
-        for (int i = 0; i < CALLS; i++) {
+        while (calls + CALLS_OF_A_TURN <= CALLS_MOST) {
             try {
                 one();
             } catch (RuntimeException e) {
-                System.out.println("run " + seed + ", call " + i + ": " + call + " threw " + e);
+                System.out.println("run " + seed + ", call " + calls + ": " + call + " threw " + e);
                 return false;
             }
+            calls++;
             if (got != due || x.status() != plain.status() || !sameOut()) {
-                System.out.println("run " + seed + ", call " + i + ": " + call + " answered " + got + " with STATUS "
+                System.out.println("run " + seed + ", call " + calls + ": " + call + " answered " + got + " with STATUS "
                     + x.status() + ", due is " + due + " with " + plain.status());
                 return false;
             }
@@ -52,8 +60,14 @@ public final class RunsTest {
         return true;
     }
 
+    /** Looks at OUT where it is another than it was, and else now and then. */
     private boolean sameOut() {
         String shown = plain.out();
+        if (shown.equals(outBefore) && random.nextInt(4 + shown.length()) > 0) {
+            return true;
+        }
+        outBefore = shown;
+        calls += shown.length() + 1;
         for (int k = 0; k < shown.length(); k++) {
             if (x.out(k) != shown.charAt(k)) {
                 return false;
@@ -68,6 +82,7 @@ public final class RunsTest {
     }
 
     private void note(String name, long first, long second) {
+        calls++;
         got = first;
         due = second;
         call = name;
@@ -115,6 +130,7 @@ public final class RunsTest {
     }
 
     private void fill(int sheet, int... numbers) {
+        calls += 1 + numbers.length;
         x.sheet(sheet, 2, numbers.length);
         plain.sheet(sheet, 2, numbers.length);
         for (int i = 0; i < numbers.length; i++) {
@@ -288,10 +304,13 @@ public final class RunsTest {
 
     private void walkAndBack(int n) {
         long total = x.count(n);
+        calls++;
         long k = total > 0 && random.nextInt(8) > 0 ? Math.floorMod(random.nextLong(), total) : random.nextInt(20) - 2;
         k = random.nextInt(30) == 0 ? random.nextLong() : k;
         note("walk(" + n + ", " + k + ")", x.walk(n, k), plain.walk(n, k));
+        calls++;
         if (got == due && x.status() == 0 && random.nextBoolean()) {
+            calls += n;
             int[] numbers = new int[n];
             for (int i = 0; i < n; i++) {
                 numbers[i] = x.out(i) - '0';
@@ -355,7 +374,9 @@ public final class RunsTest {
         long k = random.nextInt(4) == 0 ? random.nextInt(50) - 2 : random.nextLong() >>> (64 - 52);
         k = random.nextInt(3) == 0 ? k & 31 : k;
         note("brackets(" + n + ", " + k + ")", x.brackets(n, k), plain.brackets(n, k));
+        calls++;
         if (got == due && x.status() == 0 && random.nextBoolean()) {
+            calls += 2 * n;
             int[] numbers = new int[2 * n];
             for (int i = 0; i < numbers.length; i++) {
                 numbers[i] = x.out(i) == '(' ? 0 : 1;
