@@ -46,6 +46,7 @@ public final class Terms1Test {
         greatIsTwoToThe62();
         greatAllAreTwoToThe62();
         greatIsAskedOfTheAnswerAlone();
+        greatStaysGreat();
         Check.end();
     }
 
@@ -845,6 +846,32 @@ public final class Terms1Test {
         Check.refused(x, "draw(60, 0)", x.draw(60, 0), 8);
         Check.refused(x, "least()", x.least(), 8);
         Check.refused(x, "all(60)", x.all(60), 9);
+    }
+
+    // "or more": numbers that come round to few in 64 bits too, as 4 to the power 32 does
+    private static void greatStaysGreat() {
+        WalkBench x = new WalkBench();
+        Check.holds("kind(4, 1)", x.kind(4, 1));
+        Check.steps(x, 1, 0, -1, 0, 2, 0, -2, 0);
+        Check.sheet(x, 0, new int[60]);
+        for (int n = 31; n <= 60; n++) {
+            Check.refused(x, "count(" + n + "), 4 to this power", x.count(n), 9);
+            Check.refused(x, "all(" + n + ")", x.all(n), 9);
+            Check.refused(x, "walk(" + n + ", 0)", x.walk(n, 0), 9);
+            Check.refused(x, "number(0, " + n + ")", x.number(0, n), 9);
+            Check.refused(x, "draw(" + n + ", 1)", x.draw(n, 1), 9);
+        }
+        x = new WalkBench();
+        for (int n = 34; n <= 60; n += 2) {
+            Check.refused(x, "count(" + n + ") by four STEPS", x.count(n), 9);
+            Check.fine(x, "count(" + (n - 1) + "), none", x.count(n - 1), 0);
+            Check.refused(x, "all(" + n + ") by four STEPS", x.all(n), 9);
+        }
+        Check.steps(x, 1, 0, -1, 0, 0, 1, 0, -1, 1, 1, -1, 1, 1, -1, -1, -1);
+        for (int n = 24; n <= 60; n++) {
+            Check.refused(x, "count(" + n + ") by eight STEPS", x.count(n), 9);
+            Check.refused(x, "all(" + n + ") by eight STEPS", x.all(n), 9);
+        }
     }
 
     private static int[] digits(String word) {

@@ -329,8 +329,10 @@ public final class Terms2Test {
         Check.steps(x, 0, -1, 1, 0, -1, 0, 2, 0, -2, 0);
         Check.holds("from", x.from(0, 1));
         Check.fine(x, "first(31), 4 to the power 30", x.first(31), GREAT / 4);
-        Check.refused(x, "first(32), 4 to the power 31", x.first(32), 9);
-        Check.refused(x, "first(60)", x.first(60), 9);
+        for (int n = 32; n <= 60; n++) {
+            Check.refused(x, "first(" + n + "), 4 to the power " + (n - 1), x.first(n), 9);
+            Check.refused(x, "turnings(" + n + "), more than that", x.turnings(n), 9);
+        }
         Check.steps(x, 0, -1, 1, -1, 2, -1, 3, -1, 1, 0, 1, 2);
         Check.holds("from", x.from(0, 14));
         Check.fine(x, "first(26), nearly GREAT", x.first(26), 4610624494711603200L);
@@ -343,8 +345,9 @@ public final class Terms2Test {
         Check.steps(x, 0, -1, 1, 0, 0, 1, 1, 1, 0, 2, 1, 2, 0, 3);
         Check.holds("from", x.from(0, 4));
         Check.fine(x, "turnings(32), nearly GREAT", x.turnings(32), 4611107326898934224L);
-        Check.refused(x, "turnings(33)", x.turnings(33), 9);
-        Check.refused(x, "turnings(60)", x.turnings(60), 9);
+        for (int n = 33; n <= 60; n++) {
+            Check.refused(x, "turnings(" + n + ")", x.turnings(n), 9);
+        }
         Check.steps(x, 0, -1, 1, -1, 0, 1, 1, 1, 0, 2, 1, 2, 2, 2, 3, 2);
         Check.holds("from", x.from(0, 28));
         Check.refused(x, "turnings(39), hardly GREAT", x.turnings(39), 9);

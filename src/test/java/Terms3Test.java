@@ -108,7 +108,7 @@ public final class Terms3Test {
                 see(seen, x, x.step(k, what));
             }
         }
-        int[][] squares = {{1, 1}, {2, 3}, {0, -1}, {-1, 0}, {0, 7}, {0, 8}, {29, 5}, {30, 5}, {3, 3}, {4, 1}, {5, 5}, {1, 2}, {30, 30}, {-30, -30}};
+        int[][] squares = {{1, 1}, {2, 3}, {0, -1}, {-1, 0}, {0, 7}, {0, 8}, {29, 5}, {30, 5}, {3, 5}, {4, 5}, {3, 3}, {4, 1}, {5, 5}, {1, 2}, {30, 30}, {-30, -30}};
         for (int[] s : squares) {
             see(seen, x, x.open(s[0], s[1]));
         }
@@ -118,7 +118,7 @@ public final class Terms3Test {
         see(seen, x, x.all(2));
         see(seen, x, x.least());
         see(seen, x, x.best(3, 4, true));
-        see(seen, x, x.far(5));
+        see(seen, x, x.far(30));
         for (int i = 0; i < 3; i++) {
             for (int j = 0; j < 3; j++) {
                 see(seen, x, x.table(i, j));
@@ -315,6 +315,7 @@ public final class Terms3Test {
             {2, -1}, {2, 31}, {2, MAX}, {2, MIN}, {3, 1}, {3, -1}, {3, 5}, {4, 0}, {4, -1}, {4, 31}, {4, MAX}, {4, MIN}};
         for (int[] w : wrong) {
             refused(2, "kind(" + w[0] + ", " + w[1] + ")", x -> x.kind(w[0], w[1]));
+            refused(2, "kind(" + w[0] + ", " + w[1] + ") on a RING", x -> x.kind(w[0], w[1]), KIND_RING);
         }
     }
 
