@@ -80,7 +80,8 @@ public final class CountTest {
         Check.fine(x, "count(7) backward round a RING of 7", x.count(7), 1);
         Check.holds("kind(4, 5)", x.kind(4, 5));
         Check.steps(x, 1, 0, 3, 1);
-        int[][] round = {{1, 0, 1, 1}, {4, 0, 1, 0}, {3, 1, 1, 1}, {2, 1, 1, 0}, {4, 1, 2, 2}, {1, 2, 2, 1}, {4, 2, 2, 0}, {0, 3, 4, 4}, {0, 2, 4, 0}, {2, 1, 6, 0}, {3, 2, 7, 0}, {1, 2, 7, 21}};
+        int[][] round = {{1, 0, 1, 1}, {4, 0, 1, 0}, {3, 1, 1, 1}, {2, 1, 1, 0}, {4, 1, 2, 2}, {1, 2, 2, 1}, {4, 2, 2, 0},
+            {0, 3, 4, 4}, {0, 2, 4, 0}, {2, 1, 6, 0}, {3, 2, 7, 0}, {1, 2, 7, 21}};
         for (int[] row : round) {
             Check.holds("to", x.to(row[0], row[1]));
             Check.fine(x, "count round a RING to " + row[0] + ", " + row[1], x.count(row[2]), row[3]);

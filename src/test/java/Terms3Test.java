@@ -64,7 +64,7 @@ public final class Terms3Test {
         Check.end();
     }
 
-    /** Makes STEPS of these numbers by a SHEET that is as it was at the end: 3, which is MISSING, is not used. */
+    /** Makes STEPS of these numbers by SHEET 2, which is laid anew behind it; SHEET 3 stays MISSING. */
     private static boolean told(WalkBench x, int... numbers) {
         boolean fine = x.sheet(2, 0, numbers.length);
         for (int i = 0; i < numbers.length; i++) {
@@ -108,7 +108,8 @@ public final class Terms3Test {
                 see(seen, x, x.step(k, what));
             }
         }
-        int[][] squares = {{1, 1}, {2, 3}, {0, -1}, {-1, 0}, {0, 7}, {0, 8}, {29, 5}, {30, 5}, {3, 5}, {4, 5}, {3, 3}, {4, 1}, {5, 5}, {1, 2}, {30, 30}, {-30, -30}};
+        int[][] squares = {{1, 1}, {2, 3}, {0, -1}, {-1, 0}, {0, 7}, {0, 8}, {29, 5}, {30, 5}, {3, 5}, {4, 5}, {3, 3}, {4, 1}, {5, 5},
+            {1, 2}, {30, 30}, {-30, -30}};
         for (int[] s : squares) {
             see(seen, x, x.open(s[0], s[1]));
         }
@@ -490,7 +491,7 @@ public final class Terms3Test {
         refused(9, "number(3, 60)", x -> x.number(3, 60), Terms3Test::walkOf60);
     }
 
-    /** SHEET 3 is a WALK of 60: up, right, up and then right and left in turn, but that (3, 3) is BARRED: left and right. */
+    /** SHEET 3 is a WALK of 60: to (2, 2), to B, and from there to the left and back in turn. */
     private static boolean walkOf60(WalkBench x) {
         boolean fine = x.sheet(3, 0, 60) && x.write(3, 0, 4) && x.write(3, 1, 1);
         for (int i = 2; i < 60; i++) {
@@ -622,6 +623,9 @@ public final class Terms3Test {
             refused(8, "table(" + w[0] + ", " + w[1] + ")", x -> x.table(w[0], w[1]));
         }
         refusedAtFirst(8, "table(0, 0) of no FAMILY", x -> x.table(0, 0));
+        // there are no two of which one could be BARRED
+        refused(8, "table(0, 2), its beginning is BARRED, 8 ahead of 7", x -> x.table(0, 2), x -> x.bar(0, 0, true));
+        refused(8, "table(-1, 1), its end is BARRED, 8 ahead of 7", x -> x.table(-1, 1), x -> x.bar(1, 2, true));
         Deed far = x -> x.place(0, true, 20, 20);
         refused(7, "table(0, 1), its beginning is BARRED", x -> x.table(0, 1), x -> x.bar(0, 0, true));
         refused(7, "table(0, 1), its end is BARRED", x -> x.table(0, 1), x -> x.bar(1, 2, true));
