@@ -808,6 +808,8 @@ public final class WalkBench {
         final int[] dx = {1, 0, -1, 0, 0, 0, 0, 0};
         final int[] dy = {0, 1, 0, -1, 0, 0, 0, 0};
         final int[] weights = {1, 1, 1, 1, 1, 1, 1, 1};
+        // how many cells further on a step leads, where it does not go over the seam of a ring
+        final int[] leaps = {1, WIDTH, -1, -WIDTH, 0, 0, 0, 0};
         int stepCount = 4;
         int kind;
         int top = 5;
@@ -848,6 +850,7 @@ public final class WalkBench {
             if (k >= 0 && k < STEPS_MOST) {
                 dx[k] = x;
                 dy[k] = y;
+                leaps[k] = y * WIDTH + x;
                 weights[k] = 1;
             }
         }
@@ -919,24 +922,30 @@ public final class WalkBench {
             return ay >= 0 && ay <= top && by >= 0 && by <= top;
         }
 
+        boolean isPassable(int cell) {
+            return cell >= 0 && cell < CELLS && passable[cell] != 0;
+        }
+
         /** The cell that step k leads to from an open cell, or -1 where that is not open. */
         int ahead(int cell, int k) {
-            return hasStep(k) ? moved(cell, dx[k], dy[k]) : -1;
-        }
-
-        /** The cell that step k comes from to an open cell, or -1. */
-        int behind(int cell, int k) {
-            return hasStep(k) ? moved(cell, -dx[k], -dy[k]) : -1;
-        }
-
-        private int moved(int cell, int right, int up) {
-            int shift = right;
+            if (!hasStep(k)) {
+                return -1;
+            }
+            int there = cell + leaps[k];
             if (kind == KIND_RING && round > 0) {
                 int x = cell % WIDTH - CENTRE;
-                shift = Math.floorMod(x + right, round) - x;
+                there += Math.floorMod(x + dx[k], round) - (x + dx[k]);
             }
-            int there = cell + up * WIDTH + shift;
-            return there >= 0 && there < CELLS && passable[there] != 0 ? there : -1;
+            return isPassable(there) ? there : -1;
+        }
+
+        /** How many rows up or down the steps lead at most. */
+        int tallestStep() {
+            int tallest = 0;
+            for (int k = 0; k < stepCount && k < STEPS_MOST; k++) {
+                tallest = Math.max(tallest, Math.abs(dy[k]));
+            }
+            return tallest;
         }
 
         boolean stepsFallDeep() {
@@ -984,11 +993,12 @@ public final class WalkBench {
 
         void prepare(int n) {
             if (ready == 0) {
-                begin(layers, 0, plane.cellB());
+                begin(layers, plane.cellB(), plane.cellB() + 1);
                 ready = 1;
             }
+            int tallest = plane.tallestStep();
             while (ready <= n && ready <= WALK_MOST) {
-                spread(layers, (ready - 1) * CELLS, ready * CELLS, false);
+                spread(layers, (ready - 1) * CELLS, ready * CELLS, plane.by, tallest * ready);
                 ready++;
             }
         }
@@ -1002,45 +1012,59 @@ public final class WalkBench {
 
         /** How many walks of n lead from A to anywhere. */
         long anywhere(int n) {
-            begin(spreading, 0, plane.cellA());
+            begin(spreading, 0, CELLS);
+            int tallest = plane.tallestStep();
             int base = 0;
-            for (int i = 0; i < n; i++) {
-                spread(spreading, base, CELLS - base, true);
+            for (int left = 1; left <= n; left++) {
+                spread(spreading, base, CELLS - base, plane.ay, tallest * (n - left));
                 base = CELLS - base;
             }
-            long total = 0;
-            for (int cell = 0; cell < CELLS; cell++) {
-                total = added(total, spreading[base + cell]);
-            }
-            return total;
+            return spreading[base + plane.cellA()];
         }
 
-        private static void begin(long[] rows, int base, int start) {
+        /** Walks without a step: one from each open cell from first on and ahead of end. */
+        private void begin(long[] rows, int first, int end) {
             for (int cell = 0; cell < CELLS; cell++) {
-                rows[base + cell] = cell == start ? 1 : 0;
+                rows[cell] = cell >= first && cell < end && plane.isPassable(cell) ? 1 : 0;
             }
+            closeRing(rows, 0);
         }
 
-        private void spread(long[] rows, int source, int target, boolean forward) {
+        /**
+         * Fills the layer at target from the one at source, of a step less. Only the rows from y - far to y + far
+         * are looked at: what is beyond can't lead on, or is not asked.
+         */
+        private void spread(long[] rows, int source, int target, int y, int far) {
+            int first = Plane.cellOf(-CENTRE, Math.max(y - far, -EDGE));
+            int end = Plane.cellOf(-CENTRE, Math.min(y + far, EDGE) + 1);
             for (int cell = 0; cell < CELLS; cell++) {
-                rows[target + cell] = 0;
+                boolean asked = cell >= first && cell < end && plane.isPassable(cell);
+                rows[target + cell] = asked ? sumAhead(rows, source + cell) : 0;
             }
-            for (int cell = 0; cell < CELLS; cell++) {
-                long many = rows[source + cell];
-                if (many == 0) {
-                    continue;
+            closeRing(rows, target);
+        }
+
+        /** Closed cells hold 0, so all that the steps lead to may be added up. */
+        private long sumAhead(long[] rows, int here) {
+            long sum = 0;
+            for (int k = 0; k < plane.stepCount && sum < GREAT; k++) {
+                sum += rows[here + plane.leaps[k]];
+            }
+            return Math.min(sum, GREAT);
+        }
+
+        /** Beside a ring stands what is at its other side, for the steps over its seam. */
+        private void closeRing(long[] rows, int base) {
+            if (plane.kind != KIND_RING || plane.round < 1) {
+                return;
+            }
+            for (int y = -EDGE; y <= EDGE; y++) {
+                int row = base + Plane.cellOf(0, y);
+                for (int i = 0; i < STEP_FAR; i++) {
+                    rows[row - 1 - i] = rows[row + Math.floorMod(-1 - i, plane.round)];
+                    rows[row + plane.round + i] = rows[row + i % plane.round];
                 }
-                for (int k = 0; k < plane.stepCount; k++) {
-                    int there = forward ? plane.ahead(cell, k) : plane.behind(cell, k);
-                    if (there >= 0) {
-                        rows[target + there] = added(rows[target + there], many);
-                    }
-                }
             }
-        }
-
-        static long added(long one, long other) {
-            return one >= GREAT - other ? GREAT : one + other;
         }
     }
 
@@ -1285,8 +1309,13 @@ public final class WalkBench {
 
         private void push(int low, int high) {
             if (high >= -HIGHEST && high <= HIGHEST && now[low + HIGHEST] > 0) {
-                then[high + HIGHEST] = Ways.added(then[high + HIGHEST], now[low + HIGHEST]);
+                then[high + HIGHEST] = added(then[high + HIGHEST], now[low + HIGHEST]);
             }
+        }
+
+        /** A sum, or GREAT where it would be more; neither of the two is more. */
+        private static long added(long one, long other) {
+            return one >= GREAT - other ? GREAT : one + other;
         }
 
         private void swapRows() {

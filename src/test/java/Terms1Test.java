@@ -47,6 +47,7 @@ public final class Terms1Test {
         greatAllAreTwoToThe62();
         greatIsAskedOfTheAnswerAlone();
         greatStaysGreat();
+        greatStaysGreatFromEverywhere();
         Check.end();
     }
 
@@ -492,7 +493,8 @@ public final class Terms1Test {
                 Check.steps(x, dx, 0);
                 for (int at = 0; at < round; at += at == 2 && round == 30 ? 25 : 1) {
                     int due = ((at + dx) % round + round) % round;
-                    Check.holds("from", x.from(at, -30) && x.to(due, -30));
+                    int y = dx % 2 == 0 ? 30 : -30;
+                    Check.holds("from", x.from(at, y) && x.to(due, y));
                     Check.same("count(1) from " + at + " by " + dx + " round " + round, x.count(1), 1);
                 }
                 Check.holds("from", x.from(0, 7) && x.to(0, 7));
@@ -871,6 +873,27 @@ public final class Terms1Test {
         for (int n = 24; n <= 60; n++) {
             Check.refused(x, "count(" + n + ") by eight STEPS", x.count(n), 9);
             Check.refused(x, "all(" + n + ") by eight STEPS", x.all(n), 9);
+        }
+    }
+
+    // the same, from SQUARES of which some see GREAT numbers a STEP ahead and others not yet: by eight STEPS to all
+    // sides there are no fewer WALKS of a STEP more, as the last STEP is as two others
+    private static void greatStaysGreatFromEverywhere() {
+        for (int y = -30; y <= 30; y += 2) {
+            WalkBench x = new WalkBench();
+            Check.steps(x, 1, 0, -1, 0, 0, 1, 0, -1, 1, 1, -1, 1, 1, -1, -1, -1);
+            Check.holds("to", x.to(y / 3, y / 2));
+            for (int at = -30; at <= 30; at += 20) {
+                Check.holds("from", x.from(at, y));
+                long before = 0;
+                for (int n = 1; n <= 60; n++) {
+                    long many = x.count(n);
+                    Check.holds("count(" + n + ") from (" + at + ", " + y + ") is no less than of a STEP less",
+                        before == -1 ? many == -1 && x.status() == 9 : many == -1 || many >= before);
+                    before = many;
+                }
+                Check.same("count(60) from (" + at + ", " + y + ")", before, -1);
+            }
         }
     }
 
