@@ -12,6 +12,7 @@ public final class FamilyTest {
         promise30WorthOfFour();
         promise30WorthRefused();
         promise31Boxes();
+        promise31AllBoxes();
         promise32And33Brackets();
         promise32BracketsRefused();
         promise33OrderRefused();
@@ -260,6 +261,19 @@ public final class FamilyTest {
         int[][] wrong = {{7, 0, 0}, {0, 7, 0}, {0, 0, 7}, {-1, 0, 0}, {0, -1, 0}, {0, 0, -1}, {Integer.MAX_VALUE, 1, 1}};
         for (int[] row : wrong) {
             Check.refused(x, "boxes", x.boxes(row[0], row[1], row[2]), 2);
+        }
+    }
+
+    /** All of them, against rows below rows told one by one. */
+    private static void promise31AllBoxes() {
+        PlainBench plain = new PlainBench();
+        for (int a = 0; a <= 6; a++) {
+            WalkBench x = new WalkBench();
+            for (int b = 0; b <= 6; b++) {
+                for (int c = 0; c <= 6; c++) {
+                    Check.fine(x, "boxes(" + a + ", " + b + ", " + c + ")", x.boxes(a, b, c), plain.boxes(a, b, c));
+                }
+            }
         }
     }
 
